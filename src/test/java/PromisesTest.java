@@ -280,6 +280,10 @@ public final class PromisesTest {
             }
         }
         check.throwsJust("state(4096, 0, 0)", NO_INDEX, () -> x.state(4096, 0, 0));
+        is("fall(4096)", x.fall(4096), -1);
+        is("fall(4094)", x.fall(4094), 1);
+        is("plate(5, 0)", x.plate(5, 0), 1);
+        is("plate(5, 1)", x.plate(5, 1), 0);
     }
 
     private static void p10() {
@@ -668,6 +672,29 @@ public final class PromisesTest {
         is("gone(4)", x.gone(4), 28);
     }
 
+    private static void p21mostStates() {
+        OrderedDisc x = new OrderedDisc();
+        Oracle naive = new Oracle();
+        x.spare(2, 0, true);
+        x.spare(2, 1, true);
+        naive.spare(2, 0, true);
+        naive.spare(2, 1, true);
+        x.addPut(2, 7 * TWO_PARTS);
+        naive.addPut(2, 7 * TWO_PARTS);
+        x.addSure();
+        naive.addSure();
+        x.addPut(1, 2 * TWO_PARTS);
+        naive.addPut(1, 2 * TWO_PARTS);
+        x.addPut(2, 4 * TWO_PARTS);
+        naive.addPut(2, 4 * TWO_PARTS);
+        is("just 4096 STATES at a MOMENT", x.through(2), naive.through(2));
+        // 1, then 1 1 4 16 by the first PUT, 1 by SURE, 1 4 16 64 and 64 256 1024 4096 by the others.
+        goneIs(x, 14, 5549, naive.gone(2), 12, 0, 1, 4096);
+        x.addPut(0, TWO_PARTS);
+        is("more", x.through(2), -6);
+        is("gone(1) of the one ahead", x.gone(1), 5549);
+    }
+
     private static void p22and23() {
         OrderedDisc x = new OrderedDisc();
         goneIs(x, 0, 0, 0, 0, 0, 0, 0);
@@ -863,6 +890,7 @@ public final class PromisesTest {
         p21();
         p21rightOnes();
         p21room();
+        p21mostStates();
         check.at("promises 22 and 23");
         p22and23();
         check.at("promise 24");
