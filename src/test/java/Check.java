@@ -2,6 +2,7 @@
 final class Check {
     private int wrong = 0;
     private int looked = 0;
+    private int cases = 0;
     private String where = "";
 
     void at(String place) {
@@ -43,12 +44,26 @@ final class Check {
         isText(call + " throws", got, due.getName());
     }
 
+    /** One boundary case of the document, alone; what it throws by itself is a wrong answer, too. */
+    void edge(String sentence, Runnable body) {
+        where = sentence;
+        cases++;
+        int before = looked;
+        try {
+            body.run();
+        } catch (RuntimeException e) {
+            isText("a call throws", e.toString(), "nothing");
+        }
+        is("looks at something", looked > before, true);
+    }
+
     int wrong() {
         return wrong;
     }
 
     void finish() {
-        System.out.println(looked + " answers looked at, " + wrong + " not as due");
+        String alone = cases == 0 ? "" : cases + " cases, ";
+        System.out.println(alone + looked + " answers looked at, " + wrong + " not as due");
         if (wrong != 0) {
             System.exit(1);
         }

@@ -17,41 +17,8 @@ public final class PromisesTest {
         check.is(call, got, due);
     }
 
-    /** The QUEUE, ENTRY by ENTRY: "3:1,2" for a WRITE, "-" for a FENCE. */
-    private static String queue(OrderedDisc x) {
-        StringBuilder text = new StringBuilder();
-        for (int i = 0; i < x.status(0); i++) {
-            text.append(i == 0 ? "" : " ");
-            if (x.entry(i, 0) < 0) {
-                text.append("-");
-            } else {
-                text.append(x.entry(i, 0)).append(":").append(x.entry(i, 1)).append(",").append(x.entry(i, 2));
-            }
-        }
-        return text.toString();
-    }
-
     private static void queueIs(OrderedDisc x, String due) {
-        check.isText("the QUEUE", queue(x), due);
-    }
-
-    private static OrderedDisc stored(int kind) {
-        OrderedDisc x = new OrderedDisc();
-        x.store(kind);
-        return x;
-    }
-
-    private static void fill(OrderedDisc x, int entries) {
-        while (x.status(0) < entries) {
-            x.fence();
-        }
-    }
-
-    private static void setPlate(OrderedDisc x, int[][] writes) {
-        for (int[] w : writes) {
-            x.write(w[0], w[1], w[2]);
-        }
-        x.flush();
+        check.isText("the QUEUE", Discs.queue(x), due);
     }
 
     private static void p1() {
@@ -93,7 +60,7 @@ public final class PromisesTest {
         is("write(MIN, 0, 0)", x.write(MIN, 0, 0), -1);
         is("write(MAX, 0, 0)", x.write(MAX, 0, 0), -1);
         queueIs(x, "0:5,6 15:" + MIN + "," + MAX + " - 0:7,8");
-        fill(x, 59);
+        Discs.fill(x, 59);
         is("write as the 60th", x.write(1, 1, 1), 60);
         is("write as the 61st", x.write(2, 1, 1), -6);
         is("write of no SECTOR into a full QUEUE", x.write(16, 1, 1), -1);
@@ -274,7 +241,7 @@ public final class PromisesTest {
         for (int s = 0; s < 6; s++) {
             x.write(s, 1, 1);
         }
-        for (int i = 4095; i >= 0; i -= 13) {
+        for (int i = 4095; i >= 0; i -= 113) {
             for (int p = 0; p < 12; p++) {
                 is("state(" + i + ")", x.state(i, p / 2, p % 2), i >> (11 - p) & 1);
             }
@@ -305,7 +272,7 @@ public final class PromisesTest {
         is("status(7)", x.status(7), 2);
         is("status(11)", x.status(11), 3);
         is("status(6)", x.status(6), 2);
-        OrderedDisc y = stored(2);
+        OrderedDisc y = Discs.stored(2);
         y.put(0, 7);
         y.fall(y.states() - 1);
         is("the store stays", y.status(3), 2);
@@ -349,19 +316,19 @@ public final class PromisesTest {
         is("put(9, 1) without a store", none.put(9, 1), -5);
         is("status(15)", none.status(15), 2);
 
-        OrderedDisc plain = stored(0);
+        OrderedDisc plain = Discs.stored(0);
         is("put(2, -5)", plain.put(2, -5L), 1);
         queueIs(plain, "2:-1,-5");
         is("put(3, 1)", plain.put(3, 1), -1);
         is("put(-1, 1)", plain.put(-1, 1), -1);
-        fill(plain, 60);
+        Discs.fill(plain, 60);
         is("put(0, 1) into a full QUEUE", plain.put(0, 1), -6);
         is("put(3, 1) into a full QUEUE", plain.put(3, 1), -1);
 
-        OrderedDisc logged = stored(1);
+        OrderedDisc logged = Discs.stored(1);
         is("put(0, 4294967297)", logged.put(0, TWO_PARTS), 10);
         queueIs(logged, "4:0,1 5:1,-1 6:0,0 - 3:1,1776912065 - 0:1,1 - 3:0,0 -");
-        fill(logged, 51);
+        Discs.fill(logged, 51);
         is("put without room", logged.put(0, 3L), -6);
         is("nothing came", logged.status(0), 51);
         is("get(0)", logged.get(0), TWO_PARTS);
@@ -369,7 +336,7 @@ public final class PromisesTest {
         is("put with just room", logged.put(0, 3L), 9);
         is("status(0)", logged.status(0), 60);
 
-        OrderedDisc shadow = stored(2);
+        OrderedDisc shadow = Discs.stored(2);
         is("put(1, -1)", shadow.put(1, -1L), 6);
         is("put(2, 4294967299)", shadow.put(2, 4294967299L), 6);
         queueIs(shadow, "4:0,0 5:-1,-1 6:0,0 - 7:2,69 - 0:0,0 1:-1,-1 2:1,3 - 3:3,100 -");
@@ -382,7 +349,7 @@ public final class PromisesTest {
         OrderedDisc none = new OrderedDisc();
         is("move(0, 0) without a store", none.move(0, 0), -5);
 
-        OrderedDisc plain = stored(0);
+        OrderedDisc plain = Discs.stored(0);
         plain.put(0, TWO_PARTS);
         is("move(0, 2)", plain.move(0, 2), 2);
         queueIs(plain, "0:1,1 2:1,1 0:0,0");
@@ -390,18 +357,18 @@ public final class PromisesTest {
         for (int[] m : wrong) {
             is("move(" + m[0] + ", " + m[1] + ")", plain.move(m[0], m[1]), -1);
         }
-        fill(plain, 59);
+        Discs.fill(plain, 59);
         is("move with room for one of two", plain.move(0, 1), -6);
         is("nothing came", plain.status(0), 59);
         is("move(0, 0) without room", plain.move(0, 0), -1);
 
-        OrderedDisc logged = stored(1);
+        OrderedDisc logged = Discs.stored(1);
         logged.put(1, 77L);
         logged.flush();
         is("move(1, 0)", logged.move(1, 0), 11);
         queueIs(logged, "4:0,0 5:77,1 6:0,0 - 3:2,-740362835 - 0:0,77 1:0,0 - 3:0,0 -");
 
-        OrderedDisc shadow = stored(2);
+        OrderedDisc shadow = Discs.stored(2);
         shadow.put(0, 5L);
         shadow.flush();
         is("move(0, 1)", shadow.move(0, 1), 6);
@@ -413,7 +380,7 @@ public final class PromisesTest {
         check.throwsJust("get(0)", NO_STATE, () -> none.get(0));
         check.throwsJust("get(7)", NO_STATE, () -> none.get(7));
         for (int kind = 0; kind < 3; kind++) {
-            OrderedDisc x = stored(kind);
+            OrderedDisc x = Discs.stored(kind);
             check.throwsJust("get(3)", NO_INDEX, () -> x.get(3));
             check.throwsJust("get(-1)", NO_INDEX, () -> x.get(-1));
             long[] values = {Long.MIN_VALUE, 0x80000000L, -4294967296L};
@@ -429,28 +396,28 @@ public final class PromisesTest {
             is("get(1) behind move(1, 0)", x.get(1), 0L);
             is("get(2) behind move(1, 0)", x.get(2), -4294967296L);
         }
-        OrderedDisc bare = stored(0);
+        OrderedDisc bare = Discs.stored(0);
         bare.write(1, 2, 3);
         is("get(1) of what was written by hand", bare.get(1), (2L << 32) + 3);
     }
 
     private static void p14versions() {
-        OrderedDisc x = stored(2);
-        setPlate(x, new int[][] {{0, 0, 10}, {4, 0, 20}, {3, 5, 162}, {7, 4, 131}});
+        OrderedDisc x = Discs.stored(2);
+        Discs.setPlate(x, new int[][] {{0, 0, 10}, {4, 0, 20}, {3, 5, 162}, {7, 4, 131}});
         is("get(0) with 5 and 4", x.get(0), 10);
-        setPlate(x, new int[][] {{7, 6, 193}});
+        Discs.setPlate(x, new int[][] {{7, 6, 193}});
         is("get(0) with 5 and 6", x.get(0), 20);
         is("status(5)", x.status(5), 6);
-        setPlate(x, new int[][] {{7, 5, 162}});
+        Discs.setPlate(x, new int[][] {{7, 5, 162}});
         is("an odd one in SECTOR 7 is not GOOD", x.status(5), 5);
-        setPlate(x, new int[][] {{3, 6, 193}});
+        Discs.setPlate(x, new int[][] {{3, 6, 193}});
         is("an even one in SECTOR 3 is not GOOD", x.status(5), 0);
         is("get(0) without a VERSION", x.get(0), 0);
-        setPlate(x, new int[][] {{3, -1, -24}, {7, 0, 7}});
+        Discs.setPlate(x, new int[][] {{3, -1, -24}, {7, 0, 7}});
         is("none that is not above 0 is GOOD", x.status(5), 0);
         is("a CHANGE without a VERSION", x.put(1, 9), 6);
         queueIs(x, "0:0,0 1:0,9 2:0,0 - 3:1,38 -");
-        setPlate(x, new int[][] {{2, 1, 1}, {3, MAX, 31 * MAX + 7}});
+        Discs.setPlate(x, new int[][] {{2, 1, 1}, {3, MAX, 31 * MAX + 7}});
         is("status(5)", x.status(5), MAX);
         x.put(0, 3);
         queueIs(x, "4:0,3 5:0,9 6:1,1 - 7:" + MIN + "," + (31 * MIN + 7) + " -");
@@ -459,12 +426,12 @@ public final class PromisesTest {
 
     /** A LOGGED store with this in SECTORS 3 to 6, risen. */
     private static void risen(int[] parts, boolean sumIsRight, int came, String due) {
-        OrderedDisc x = stored(1);
+        OrderedDisc x = Discs.stored(1);
         int v = parts[0];
         for (int i = 1; i < 7; i++) {
             v = 31 * v + parts[i];
         }
-        setPlate(x, new int[][] {{3, parts[0], 2 * v + (sumIsRight ? 1 : 0)},
+        Discs.setPlate(x, new int[][] {{3, parts[0], 2 * v + (sumIsRight ? 1 : 0)},
             {4, parts[1], parts[2]}, {5, parts[3], parts[4]}, {6, parts[5], parts[6]}});
         is("isSound()", x.isSound(), false);
         is("rise()", x.rise(), came);
@@ -487,19 +454,19 @@ public final class PromisesTest {
         risen(new int[] {0, 0, 7, 8, 1, 5, 6}, true, 2, "3:0,0 -");
         risen(new int[] {-1, 0, 7, 8, 1, 5, 6}, true, 2, "3:0,0 -");
 
-        OrderedDisc x = stored(1);
+        OrderedDisc x = Discs.stored(1);
         is("rise() of a sound store", x.rise(), 0);
         x.fence();
         is("rise() with a FENCE in the QUEUE", x.rise(), -5);
         is("status(15)", x.status(15), 1);
         x.flush();
-        setPlate(x, new int[][] {{3, 1, 0}});
+        Discs.setPlate(x, new int[][] {{3, 1, 0}});
         x.spare(1, 3, true);
         is("rise() with FENCE 3 SPARED", x.rise(), 1);
         is("status(6) has the WRITES of rise()", x.status(6), 2);
         for (int kind = 0; kind < 3; kind += 2) {
-            OrderedDisc y = stored(kind);
-            setPlate(y, new int[][] {{3, 1, 1}, {7, 1, 1}});
+            OrderedDisc y = Discs.stored(kind);
+            Discs.setPlate(y, new int[][] {{3, 1, 1}, {7, 1, 1}});
             is("rise() of PLAIN and SHADOW", y.rise(), 0);
             y.write(0, 1, 1);
             is("rise() with a QUEUE", y.rise(), -5);
@@ -508,10 +475,10 @@ public final class PromisesTest {
 
     private static void p16() {
         is("isSound() without a store", new OrderedDisc().isSound(), false);
-        OrderedDisc plain = stored(0);
+        OrderedDisc plain = Discs.stored(0);
         plain.write(3, 1, 1);
         is("PLAIN", plain.isSound(), true);
-        OrderedDisc logged = stored(1);
+        OrderedDisc logged = Discs.stored(1);
         is("LOGGED", logged.isSound(), true);
         logged.put(0, 1);
         is("LOGGED, as READ", logged.isSound(), true);
@@ -521,7 +488,7 @@ public final class PromisesTest {
         is("LOGGED with (1, 0)", logged.isSound(), false);
         logged.write(3, 0, 0);
         is("LOGGED with (0, 0)", logged.isSound(), true);
-        OrderedDisc shadow = stored(2);
+        OrderedDisc shadow = Discs.stored(2);
         is("SHADOW", shadow.isSound(), true);
         shadow.write(3, 1, 39);
         is("SHADOW without a GOOD one", shadow.isSound(), false);
@@ -825,7 +792,7 @@ public final class PromisesTest {
         x.fall(99);
         x.store(9);
         x.rise();
-        fill(x, 60);
+        Discs.fill(x, 60);
         x.fence();
         int[] refusals = {1, 1, 0, 0, 1, 1};
         for (int i = 0; i < 6; i++) {

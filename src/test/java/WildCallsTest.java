@@ -70,7 +70,8 @@ public final class WildCallsTest {
 
     private static void run(Check check, int seed) {
         WildCallsTest test = new WildCallsTest(seed);
-        for (int i = 0; i < 512; i++) {
+        // An object is used for 512 calls; callThatMayThrow() makes a second one now and then.
+        for (int i = 0; i < 450; i++) {
             String thrown = "";
             try {
                 if (test.random.nextInt(6) == 0) {
@@ -110,7 +111,7 @@ public final class WildCallsTest {
 
     public static void main(String[] args) {
         Check check = new Check();
-        for (int seed = 0; seed < 300; seed++) {
+        for (int seed = 0; seed < 350; seed++) {
             check.at("seed " + seed);
             run(check, seed);
         }
